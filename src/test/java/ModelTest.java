@@ -1,0 +1,282 @@
+import java.util.Random;
+
+/** All promises: long runs of calls that are drawn from fixed seeds, each answered by a plain model, too. */
+public final class ModelTest {
+    private static final int RUNS = 400;
+    private static final int CALLS = 512;
+
+    private final Random random;
+    private final StandIns x = new StandIns();
+    private final PlainModel model = new PlainModel();
+    private final StringBuilder calls = new StringBuilder();
+    // how many there are at most: small houses are cast by hand in no time, and tie more often
+    private final int mostRoles;
+    private final int mostPlayers;
+
+    private ModelTest(int seed) {
+        random = new Random(seed);
+        mostRoles = random.nextInt(6) + 1;
+        mostPlayers = mostRoles > 3 ? 7 : random.nextInt(10) + 1;
+    }
+
+    public static void main(String[] args) {
+        int runs = args.length > 0 ? Integer.parseInt(args[0]) : RUNS;
+        for (int seed = 0; seed < runs; seed++) {
+            if (!new ModelTest(seed).run()) {
+                System.out.println("ModelTest: the run " + seed + " differs");
+                System.exit(1);
+            }
+        }
+        System.out.println("ModelTest: " + runs + " runs of " + CALLS + " calls, 0 wrong");
+    }
+
+    private boolean run() {
+        for (int i = 0; i < CALLS; i++) {
+            if (!step()) {
+                System.out.println(calls);
+                return false;
+            }
+        }
+        return true;
+    }
+
+    private boolean same(String call, Checks.Call mine, Checks.Call due) {
+        String got = answer(mine);
+        String want = answer(due);
+        calls.append(call).append(" = ").append(got).append('\n');
+        if (!got.equals(want)) {
+            calls.append("  due is ").append(want).append('\n');
+        }
+        return got.equals(want);
+    }
+
+    private static String answer(Checks.Call call) {
+        try {
+            return Long.toString(call.answer());
+        } catch (RuntimeException e) {
+            return e.getClass().getName();
+        }
+    }
+
+    private int from(int least, int most) {
+        return least + random.nextInt(most - least + 1);
+    }
+
+    /** Mostly in the range, now and then right outside of it, or far. */
+    private int near(int least, int most) {
+        int kind = random.nextInt(40);
+        return kind == 0 ? least - 1 : kind == 1 ? most + 1 : kind == 2 ? random.nextInt() : from(least, most);
+    }
+
+    private int someRole() {
+        return near(0, Math.max(0, x.about(0) - 1));
+    }
+
+    private int somePlayer() {
+        return near(0, Math.max(0, x.about(1) - 1));
+    }
+
+    private boolean step() {
+        int kind = random.nextInt(100);
+        if (kind < 4) {
+            return text();
+        }
+        if (kind < 60) {
+            return action();
+        }
+        if (kind < 75) {
+            return reading();
+        }
+        return wouldBe();
+    }
+
+    private boolean text() {
+        if (random.nextInt(3) > 0) {
+            return same("errorPosition()", x::errorPosition, model::errorPosition);
+        }
+        if (!same("clearText()", x::clearText, model::clearText)) {
+            return false;
+        }
+        String text = someText();
+        for (char c : text.toCharArray()) {
+            if (!same("append(" + (int) c + ")", () -> x.append(c), () -> model.append(c))) {
+                return false;
+            }
+        }
+        return same("append", () -> x.append('p'), () -> model.append('p'))
+            && same("errorPosition()", x::errorPosition, model::errorPosition)
+            && (random.nextInt(3) > 0 || same("load()", x::load, model::load));
+    }
+
+    private String someText() {
+        StringBuilder s = new StringBuilder("H");
+        int commands = random.nextInt(50);
+        for (int i = 0; i < commands && s.length() < 117; i++) {
+            char letter = "rppyyyyyfadg".charAt(random.nextInt(12));
+            s.append(letter);
+            int digits = letter == 'y' ? 3 : letter == 'f' || letter == 'a' ? 2 : letter == 'p' || letter == 'g' ? 0 : 1;
+            for (int d = 1; d <= digits; d++) {
+                boolean small = letter == 'y' && d < 3 || letter == 'f' || letter == 'a' && d == 1;
+                s.append((char) ('0' + (small ? random.nextInt(4) : from(1, 9))));
+            }
+        }
+        if (random.nextInt(4) == 0) {
+            s.setCharAt(random.nextInt(s.length()), "Hrpyfadg0123456789 z\u00ff".charAt(random.nextInt(21)));
+        }
+        return s.toString();
+    }
+
+    private boolean action() {
+        int r = someRole();
+        int p = somePlayer();
+        switch (random.nextInt(20)) {
+            case 0:
+                int weight = near(1, 9);
+                return x.about(0) >= mostRoles && mostRoles < 6
+                    || same("addRole(" + weight + ")", () -> x.addRole(weight), () -> model.addRole(weight));
+            case 1:
+                return x.about(1) >= mostPlayers && mostPlayers < 10 || same("addPlayer()", x::addPlayer, model::addPlayer);
+            case 2: case 3: case 4: case 5: case 6:
+                int degree = near(0, random.nextBoolean() ? 9 : 2);
+                return same("ready(" + p + ", " + r + ", " + degree + ")", () -> x.ready(p, r, degree), () -> model.ready(p, r, degree));
+            case 7:
+                return same("first(" + r + ", " + p + ")", () -> x.first(r, p), () -> model.first(r, p));
+            case 8: case 9:
+                int days = near(1, random.nextBoolean() ? 99 : 3);
+                return same("away(" + p + ", " + days + ")", () -> x.away(p, days), () -> model.away(p, days));
+            case 10: case 11:
+                return same("post()", x::post, model::post);
+            case 12: case 13: case 14: case 15:
+                return same("play()", x::play, model::play);
+            case 16:
+                int n = near(1, random.nextBoolean() ? 99 : 2);
+                return same("dark(" + n + ")", () -> x.dark(n), () -> model.dark(n));
+            case 17:
+                return same("promote(" + r + ")", () -> x.promote(r), () -> model.promote(r));
+            case 18:
+                int what = near(0, 4);
+                int v = near(0, random.nextBoolean() ? 9 : 100);
+                return same("set(" + what + ", " + v + ")", () -> x.set(what, v), () -> model.set(what, v));
+            default:
+                return undos();
+        }
+    }
+
+    private boolean undos() {
+        int n = random.nextInt(4) == 0 ? 17 : 2;
+        for (int i = 0; i < n; i++) {
+            if (!same("undo()", x::undo, model::undo)) {
+                return false;
+            }
+        }
+        return true;
+    }
+
+    private boolean reading() {
+        int r = someRole();
+        int p = somePlayer();
+        int what = near(0, 7);
+        switch (random.nextInt(6)) {
+            case 0:
+                return same("about(" + what + ")", () -> x.about(what), () -> model.about(what));
+            case 1:
+                return same("role(" + r + ", " + what + ")", () -> x.role(r, what), () -> model.role(r, what));
+            case 2:
+                return same("player(" + p + ", " + what + ")", () -> x.player(p, what), () -> model.player(p, what));
+            case 3:
+                return same("both(" + p + ", " + r + ", " + what + ")", () -> x.both(p, r, what), () -> model.both(p, r, what));
+            case 4:
+                return same("setting(" + what + ")", () -> x.setting(what), () -> model.setting(what));
+            default:
+                return allReadings();
+        }
+    }
+
+    private boolean allReadings() {
+        boolean good = true;
+        for (int i = 0; i <= 10; i++) {
+            int k = i;
+            good = good && same("ranked(" + k + ")", () -> x.ranked(k), () -> model.ranked(k));
+            good = good && same("about(" + k + ")", () -> x.about(k), () -> model.about(k));
+            good = good && same("setting(" + k + ")", () -> x.setting(k), () -> model.setting(k));
+            for (int j = 0; j < 60; j++) {
+                int a = j / 6;
+                int b = j % 6;
+                good = good && (k > 5 || same("role(" + a + ", " + k + ")", () -> x.role(a, k), () -> model.role(a, k)));
+                good = good && (k > 6 || same("player(" + a + ", " + k + ")", () -> x.player(a, k), () -> model.player(a, k)));
+                good = good && (k > 3 || same("both(" + a + ", " + b + ", " + k + ")", () -> x.both(a, b, k), () -> model.both(a, b, k)));
+            }
+        }
+        return good;
+    }
+
+    private boolean wouldBe() {
+        int r = someRole();
+        int p = somePlayer();
+        int slot = near(0, 1);
+        switch (random.nextInt(16)) {
+            case 0: case 1:
+                return same("strength()", x::strength, model::strength);
+            case 2: case 3:
+                return same("without(" + p + ")", () -> x.without(p), () -> model.without(p));
+            case 4: case 5:
+                return same("missed()", x::missed, model::missed);
+            case 6:
+                int days = near(1, 30);
+                return same("coming(" + days + ")", () -> x.coming(days), () -> model.coming(days));
+            case 7: case 8:
+                return same("degreeFor(" + p + ", " + r + ")", () -> x.degreeFor(p, r), () -> model.degreeFor(p, r));
+            case 9: case 10: case 11: case 12:
+                int n = near(1, 3);
+                long script = someScript(n);
+                return same("runScript(" + n + ", " + script + ")", () -> x.runScript(n, script), () -> model.runScript(n, script));
+            case 13:
+                int m = near(1, 40);
+                long seed = random.nextLong();
+                return same("simulate(" + seed + ", " + m + ")", () -> x.simulate(seed, m), () -> model.simulate(seed, m));
+            case 14:
+                return same("save(" + slot + ")", () -> x.save(slot), () -> model.save(slot));
+            default:
+                return random.nextInt(3) > 0 || same("restore(" + slot + ")", () -> x.restore(slot), () -> model.restore(slot));
+        }
+    }
+
+    private long someScript(int n) {
+        if (random.nextInt(30) == 0) {
+            return random.nextLong() >> random.nextInt(64);
+        }
+        long script = 0;
+        for (int i = 0; i < Math.min(n, 4); i++) {
+            script = script * 10000 + someGroup();
+        }
+        return script;
+    }
+
+    private int someGroup() {
+        int p = from(0, Math.max(0, x.about(1) - 1));
+        int r = from(0, Math.max(0, x.about(0) - 1));
+        int off = random.nextInt(20) == 0 ? random.nextInt(10) * (random.nextBoolean() ? 100 : 1) : 0;
+        switch (from(1, 10)) {
+            case 1:
+                return 1000 + 100 * p + 10 * r + from(0, 9);
+            case 2:
+                return 2000 + 100 * r + 10 * p + off % 10;
+            case 3:
+                return 3000 + 100 * p + from(0, 4) + (off > 0 ? 10 : 0);
+            case 4:
+                return 4000 + off;
+            case 5:
+                return 5000 + off;
+            case 6:
+                return 6000 + off + from(0, random.nextBoolean() ? 99 : 3);
+            case 7:
+                return 7000 + 100 * r + 10 * p + off % 10;
+            case 8:
+                return 8000 + Math.min(999, Math.max(0, x.strength() + from(-3, 3)));
+            case 9:
+                return 9000 + 100 * p + (x.about(1) > 0 ? Math.min(99, x.player(p, 0) + from(0, 40)) : 0);
+            default:
+                return random.nextInt(10000);
+        }
+    }
+}
