@@ -403,7 +403,9 @@ public final class StandIns {
             fill(rows, 0);
             fill(backDays, 0);
             fill(shows, 0);
-            copy(SETTING_AT_FIRST, settings);
+            for (int i = 0; i < SETTINGS; i++) {
+                settings[i] = SETTING_AT_FIRST[i];
+            }
             roles = 0;
             players = 0;
             today = 0;

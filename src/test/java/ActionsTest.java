@@ -24,6 +24,7 @@ public final class ActionsTest {
         undo();
         undoTakesBackAll();
         undoForgetsTheOldest();
+        fullHouse();
         T.end();
     }
 
@@ -314,7 +315,7 @@ public final class ActionsTest {
             x::addPlayer, () -> x.ready(2, 0, 9), () -> x.first(0, 2), () -> x.away(1, 3), x::post);
         List<Checks.Call> laterActions = List.of(
             () -> x.set(1, 77), x::play, () -> x.dark(3), x::post, x::play, () -> x.first(0, 1), () -> x.promote(0),
-            () -> x.set(0, 2), () -> x.addRole(3));
+            () -> x.addRole(3), x::play);
         Deque<String> before = new ArrayDeque<>();
         doAll(x, actions, before);
         doAll(x, laterActions, before);
@@ -348,5 +349,34 @@ public final class ActionsTest {
         T.badState("22: the fifteenth is forgotten", x, x::undo);
         x.dark(1);
         T.due("22: one more action", 0, x::undo);
+    }
+
+    /** Six roles and ten players; the role r is played by 9 - r, who is its first player in every other role. */
+    private static void fullHouse() {
+        StandIns x = Checks.house("Hr1r2r3r4r5r6pppppppppp");
+        for (int r = 0; r < 6; r++) {
+            x.ready(9 - r, r, 9);
+            x.ready(0, r, 1);
+            if (r % 2 == 0) {
+                x.first(r, 9 - r);
+            }
+        }
+        T.due("17: post() in a full house", 19 + 18 + 57 + 36 + 95 + 54, x::post);
+        for (int r = 0; r < 6; r++) {
+            int role = r;
+            T.due("17: posted for " + r, 9 - r, () -> x.role(role, 3));
+        }
+        T.due("25: missed() in a full house", 4, () -> {
+            x.ready(0, 5, 0);
+            return x.missed();
+        });
+        T.due("18: play() in a full house", 6 * 10 + 2 * 21 + 3 * 5, x::play);
+        T.due("11: ranked(0) in a full house", 4, () -> x.ranked(0));
+        T.due("11: ranked(9) in a full house", 3, () -> x.ranked(9));
+        T.due("20: promote(1) in a full house", 8, () -> x.promote(1));
+        T.due("20: promote(5) in a full house", 4, () -> x.promote(5));
+        T.badState("20: promote(0) in a full house", x, () -> x.promote(0));
+        T.outOfBounds("20: promote(6) in a full house", x, () -> x.promote(6));
+        T.outOfBounds("8: player(10, 0) in a full house", x, () -> x.player(10, 0));
     }
 }

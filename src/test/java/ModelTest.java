@@ -103,7 +103,7 @@ public final class ModelTest {
                 return false;
             }
         }
-        return same("append", () -> x.append('p'), () -> model.append('p'))
+        return same("append(112)", () -> x.append('p'), () -> model.append('p'))
             && same("errorPosition()", x::errorPosition, model::errorPosition)
             && (random.nextInt(3) > 0 || same("load()", x::load, model::load));
     }

@@ -67,6 +67,8 @@ public final class ReadingTest {
         T.due("7: the posted one of 0", 0, () -> x.role(0, 3));
         T.due("7: the posted one of 1", 1, () -> x.role(1, 3));
         T.due("7: those who can play 0 without 0", 2, () -> x.role(0, 4));
+        x.ready(1, 0, 1);
+        T.due("7: the least degree is enough", 2, () -> x.role(0, 4));
         x.ready(1, 0, 0);
         T.due("7: those who can play 0 without 0 and 1", 1, () -> x.role(0, 4));
         x.away(1, 2);

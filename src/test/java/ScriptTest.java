@@ -109,7 +109,10 @@ public final class ScriptTest {
         T.due("28: 3 is away(p, d)", -1, () -> x.runScript(3, 3001_7020_8042L));
         T.due("28: 3 and 6 bring back", -1, () -> x.runScript(3, 3002_6002_7000L));
         T.due("28: but not before", 2, () -> x.runScript(3, 3003_6002_7000L));
-        T.due("28: 6 with two digits", -1, () -> x.runScript(3, 3009_6010_7000L));
+        StandIns longAway = Checks.house(TWO);
+        longAway.away(0, 47);
+        T.due("28: 6 with two digits", -1, () -> longAway.runScript(2, 6047_7000L));
+        T.due("28: 6 with a day less", 1, () -> longAway.runScript(2, 6046_7000L));
         T.due("28: without a post no late fee", -1, () -> x.runScript(3, 3001_5000_9225L));
         T.due("28: not more than without a post", 2, () -> x.runScript(3, 3001_5000_9226L));
         T.due("28: 5 pays", -1, () -> x.runScript(2, 5000_9020L));
@@ -175,7 +178,7 @@ public final class ScriptTest {
 
     /** The days of every seed done by hand, with the calls of an object that is the same. */
     private static void simulateDays() {
-        String[] texts = {TWO, TWO + "gg", TWO + "pr1y321y223a22", TWO + "pppy303y414y515"};
+        String[] texts = {TWO, TWO + "gg", TWO + "pr1y321y223a22", TWO + "pppy303y414y515", TWO + "a09a19a22gg", "Hr3py005f00"};
         for (int i = 0; i < 1000; i++) {
             long seed = (i - 500) * 0x123456789ABCDEFL;
             int m = i % 40 + 1;

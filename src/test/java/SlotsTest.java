@@ -76,6 +76,10 @@ public final class SlotsTest {
         String saved = Snapshot.of(x);
         x.save(1);
         x.play();
+        x.away(0, 1);
+        x.away(1, 1);
+        x.away(2, 1);
+        x.play();
         x.addRole(9);
         x.addPlayer();
         x.ready(0, 0, 1);

@@ -8,6 +8,7 @@ public final class TextTest {
         clearText();
         errorPosition();
         errorPositionOfDigits();
+        errorPositionOfEnds();
         load();
         loadLeavesOut();
         loadMakesNew();
@@ -108,6 +109,20 @@ public final class TextTest {
         error("Hr5r2pppy005f00a19d9gg\u00ff", 22);
     }
 
+    private static void errorPositionOfEnds() {
+        String full = "H" + "p".repeat(118);
+        error(full + "p", -1);
+        error(full + "r", 120);
+        error(full + "x", 119);
+        error(full.substring(2) + "y0", 0);
+        error("H" + full.substring(2) + "y0", 120);
+        StandIns x = new StandIns();
+        Checks.put(x, "Hy000");
+        x.clearText();
+        Checks.put(x, "Hy0");
+        T.due("4: what was cleared does not count", 3, x::errorPosition);
+    }
+
     /** Every digit at every place where one may stand, and the signs right outside of the digits. */
     private static void errorPositionOfDigits() {
         digits("Hr", "", '1', '9');
@@ -189,7 +204,9 @@ public final class TextTest {
         StandIns x = new StandIns();
         x.addRole(4);
         x.addPlayer();
+        x.play();
         x.ready(0, 0, 7);
+        x.play();
         x.first(0, 0);
         x.play();
         for (int what = 0; what <= 4; what++) {
@@ -199,13 +216,14 @@ public final class TextTest {
         x.save(0);
         x.save(1);
         T.badState("5: load() of no house", x, x::load);
-        T.due("5: a refused load keeps the states", 10, () -> {
+        T.due("5: a refused load keeps the states", 12, () -> {
             x.addPlayer();
             x.undo();
             return x.undo();
         });
-        T.due("5: a refused load keeps the slots", 1, () -> x.restore(0));
+        T.due("5: a refused load keeps the slots", 3, () -> x.restore(0));
         x.addPlayer();
+        x.away(0, 9);
         Checks.put(x, "Hr6p");
         T.due("5: load()", 0, x::load);
         T.same("5: all is as in a new object", Snapshot.of(Checks.house("Hr6p")), Snapshot.of(x));
