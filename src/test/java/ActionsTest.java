@@ -1,5 +1,4 @@
-import java.util.ArrayDeque;
-import java.util.Deque;
+import java.util.ArrayList;
 import java.util.List;
 
 /** Promises 12 to 22: the actions. */
@@ -30,9 +29,9 @@ public final class ActionsTest {
 
     private static void addRole() {
         StandIns x = new StandIns();
-        T.badArgument("12: addRole(0)", x, () -> x.addRole(0));
-        T.badArgument("12: addRole(10)", x, () -> x.addRole(10));
-        T.badArgument("12: addRole(-1)", x, () -> x.addRole(-1));
+        T.badArgument("12: addRole(0)", () -> x.addRole(0));
+        T.badArgument("12: addRole(10)", () -> x.addRole(10));
+        T.badArgument("12: addRole(-1)", () -> x.addRole(-1));
         for (int r = 0; r < 6; r++) {
             int role = r;
             int weight = r == 5 ? 9 : r + 1;
@@ -40,12 +39,12 @@ public final class ActionsTest {
             T.due("12: its weight", weight, () -> x.role(role, 0));
             T.due("12: its first player", -1, () -> x.role(role, 1));
         }
-        T.badState("12: a seventh role", x, () -> x.addRole(1));
-        T.badArgument("12: a seventh role with the weight 10", x, () -> x.addRole(10));
+        T.badState("12: a seventh role", () -> x.addRole(1));
+        T.badArgument("12: a seventh role with the weight 10", () -> x.addRole(10));
         StandIns y = Checks.house("Hr1py001");
         y.post();
-        T.badState("12: addRole(1) with a posted cast", y, () -> y.addRole(1));
-        T.badArgument("12: addRole(0) with a posted cast", y, () -> y.addRole(0));
+        T.badState("12: addRole(1) with a posted cast", () -> y.addRole(1));
+        T.badArgument("12: addRole(0) with a posted cast", () -> y.addRole(0));
         y.dark(1);
         T.due("12: addRole(1) on the next day", 1, () -> y.addRole(1));
         T.due("12: the degree for it", 0, () -> y.both(0, 1, 0));
@@ -60,7 +59,7 @@ public final class ActionsTest {
             T.due("13: free", 1, () -> x.player(player, 3));
             T.due("13: the degree", 0, () -> x.both(player, 0, 0));
         }
-        T.badState("13: an eleventh player", x, x::addPlayer);
+        T.badState("13: an eleventh player", x::addPlayer);
         StandIns y = Checks.house("Hr1py001");
         y.post();
         T.due("13: addPlayer() with a posted cast", 1, y::addPlayer);
@@ -75,14 +74,14 @@ public final class ActionsTest {
         T.due("14: ready(0, 1, 4) again", 4, () -> x.ready(0, 1, 4));
         T.due("14: the degree of 0 for 1", 4, () -> x.both(0, 1, 0));
         T.due("14: the degree of 1 for 0", 0, () -> x.both(1, 0, 0));
-        T.badArgument("14: ready(0, 0, 10)", x, () -> x.ready(0, 0, 10));
-        T.badArgument("14: ready(0, 0, -1)", x, () -> x.ready(0, 0, -1));
-        T.outOfBounds("14: ready(2, 0, 1)", x, () -> x.ready(2, 0, 1));
-        T.outOfBounds("14: ready(0, 2, 1)", x, () -> x.ready(0, 2, 1));
-        T.outOfBounds("14: ready(-1, 0, 1)", x, () -> x.ready(-1, 0, 1));
-        T.outOfBounds("14: ready(0, -1, 1)", x, () -> x.ready(0, -1, 1));
-        T.outOfBounds("14: ready(2, 0, 10)", x, () -> x.ready(2, 0, 10));
-        T.outOfBounds("14: ready(0, 2, -1)", x, () -> x.ready(0, 2, -1));
+        T.badArgument("14: ready(0, 0, 10)", () -> x.ready(0, 0, 10));
+        T.badArgument("14: ready(0, 0, -1)", () -> x.ready(0, 0, -1));
+        T.outOfBounds("14: ready(2, 0, 1)", () -> x.ready(2, 0, 1));
+        T.outOfBounds("14: ready(0, 2, 1)", () -> x.ready(0, 2, 1));
+        T.outOfBounds("14: ready(-1, 0, 1)", () -> x.ready(-1, 0, 1));
+        T.outOfBounds("14: ready(0, -1, 1)", () -> x.ready(0, -1, 1));
+        T.outOfBounds("14: ready(2, 0, 10)", () -> x.ready(2, 0, 10));
+        T.outOfBounds("14: ready(0, 2, -1)", () -> x.ready(0, 2, -1));
     }
 
     private static void first() {
@@ -93,10 +92,10 @@ public final class ActionsTest {
         T.due("15: one may be the first of two", -1, () -> x.first(1, 1));
         T.due("15: first(0, 0)", 1, () -> x.first(0, 0));
         T.due("15: the first one of 1 stays", 1, () -> x.role(1, 1));
-        T.outOfBounds("15: first(2, 0)", x, () -> x.first(2, 0));
-        T.outOfBounds("15: first(0, 3)", x, () -> x.first(0, 3));
-        T.outOfBounds("15: first(-1, 0)", x, () -> x.first(-1, 0));
-        T.outOfBounds("15: first(0, -1)", x, () -> x.first(0, -1));
+        T.outOfBounds("15: first(2, 0)", () -> x.first(2, 0));
+        T.outOfBounds("15: first(0, 3)", () -> x.first(0, 3));
+        T.outOfBounds("15: first(-1, 0)", () -> x.first(-1, 0));
+        T.outOfBounds("15: first(0, -1)", () -> x.first(0, -1));
     }
 
     private static void away() {
@@ -107,19 +106,19 @@ public final class ActionsTest {
         T.due("16: away(0, 99)", 102, () -> x.away(0, 99));
         T.due("16: 99 days", 99, () -> x.player(0, 2));
         T.due("16: not free", 0, () -> x.player(0, 3));
-        T.badArgument("16: away(0, 0)", x, () -> x.away(0, 0));
-        T.badArgument("16: away(0, 100)", x, () -> x.away(0, 100));
-        T.badArgument("16: away(0, -1)", x, () -> x.away(0, -1));
-        T.outOfBounds("16: away(2, 1)", x, () -> x.away(2, 1));
-        T.outOfBounds("16: away(-1, 1)", x, () -> x.away(-1, 1));
-        T.outOfBounds("16: away(2, 0)", x, () -> x.away(2, 0));
+        T.badArgument("16: away(0, 0)", () -> x.away(0, 0));
+        T.badArgument("16: away(0, 100)", () -> x.away(0, 100));
+        T.badArgument("16: away(0, -1)", () -> x.away(0, -1));
+        T.outOfBounds("16: away(2, 1)", () -> x.away(2, 1));
+        T.outOfBounds("16: away(-1, 1)", () -> x.away(-1, 1));
+        T.outOfBounds("16: away(2, 0)", () -> x.away(2, 0));
         x.dark(1);
         T.due("16: back on the next day", 1, () -> x.player(1, 3));
     }
 
     private static void post() {
         StandIns none = new StandIns();
-        T.badState("17: post() without roles", none, none::post);
+        T.badState("17: post() without roles", none::post);
         StandIns x = Checks.house(TWO);
         T.due("17: post()", 97, x::post);
         T.due("17: posted for 0", 0, () -> x.role(0, 3));
@@ -129,7 +128,7 @@ public final class ActionsTest {
         T.due("17: posted for 0 instead", 2, () -> x.role(0, 3));
         x.away(1, 1);
         x.away(2, 1);
-        T.badState("17: post() without a cast", x, x::post);
+        T.badState("17: post() without a cast", x::post);
         T.due("17: what is posted stays", 2, () -> x.role(0, 3));
         x.play();
         T.due("17: posted on the next day", 0, () -> x.about(6));
@@ -138,7 +137,7 @@ public final class ActionsTest {
 
     private static void play() {
         StandIns none = Checks.house("Hp");
-        T.badState("18: play() without roles", none, none::play);
+        T.badState("18: play() without roles", none::play);
         StandIns x = Checks.house(TWO);
         T.due("18: play()", 34, x::play);
         T.due("18: the next day", 1, () -> x.about(2));
@@ -221,28 +220,28 @@ public final class ActionsTest {
         x.away(1, 9);
         x.dark(8);
         T.due("19: one day left", 1, () -> x.player(1, 2));
-        T.badArgument("19: dark(0)", x, () -> x.dark(0));
-        T.badArgument("19: dark(100)", x, () -> x.dark(100));
-        T.badArgument("19: dark(-1)", x, () -> x.dark(-1));
+        T.badArgument("19: dark(0)", () -> x.dark(0));
+        T.badArgument("19: dark(100)", () -> x.dark(100));
+        T.badArgument("19: dark(-1)", () -> x.dark(-1));
         T.due("19: without roles and players", 5, () -> new StandIns().dark(5));
     }
 
     private static void promote() {
         StandIns x = Checks.house("Hr1r1pppy005y119");
-        T.badState("20: nobody has played it", x, () -> x.promote(0));
-        T.outOfBounds("20: promote(2)", x, () -> x.promote(2));
-        T.outOfBounds("20: promote(-1)", x, () -> x.promote(-1));
+        T.badState("20: nobody has played it", () -> x.promote(0));
+        T.outOfBounds("20: promote(2)", () -> x.promote(2));
+        T.outOfBounds("20: promote(-1)", () -> x.promote(-1));
         x.play();
         T.due("20: without a first one", 0, () -> x.promote(0));
         T.due("20: it is the first one", 0, () -> x.role(0, 1));
         T.due("20: the other role has none", -1, () -> x.role(1, 1));
-        T.badState("20: the first one played it most often", x, () -> x.promote(0));
+        T.badState("20: the first one played it most often", () -> x.promote(0));
         x.first(0, 2);
         T.due("20: the first one never played it", 0, () -> x.promote(0));
         x.ready(2, 0, 9);
         x.first(0, 2);
         x.play();
-        T.badState("20: as often is not more often", x, () -> x.promote(0));
+        T.badState("20: as often is not more often", () -> x.promote(0));
         x.first(0, 1);
         T.due("20: of several the lowest one", 0, () -> x.promote(0));
         x.first(0, 2);
@@ -268,12 +267,12 @@ public final class ActionsTest {
             T.due("21: set to the least", atFirst[w], () -> x.set(w, least[w]));
             T.due("21: set to the most", least[w], () -> x.set(w, most[w]));
             T.due("21: the setting", most[w], () -> x.setting(w));
-            T.badArgument("21: below the least", x, () -> x.set(w, least[w] - 1));
-            T.badArgument("21: above the most", x, () -> x.set(w, most[w] + 1));
+            T.badArgument("21: below the least", () -> x.set(w, least[w] - 1));
+            T.badArgument("21: above the most", () -> x.set(w, most[w] + 1));
         }
-        T.badArgument("21: set(5, 1)", x, () -> x.set(5, 1));
-        T.badArgument("21: set(-1, 1)", x, () -> x.set(-1, 1));
-        T.badArgument("21: set(greatest, 1)", x, () -> x.set(Integer.MAX_VALUE, 1));
+        T.badArgument("21: set(5, 1)", () -> x.set(5, 1));
+        T.badArgument("21: set(-1, 1)", () -> x.set(-1, 1));
+        T.badArgument("21: set(greatest, 1)", () -> x.set(Integer.MAX_VALUE, 1));
         StandIns y = Checks.house("Hr1py001");
         y.post();
         y.set(0, 1);
@@ -282,11 +281,11 @@ public final class ActionsTest {
 
     private static void undo() {
         StandIns x = new StandIns();
-        T.badState("22: undo() of nothing", x, x::undo);
+        T.badState("22: undo() of nothing", x::undo);
         x.addPlayer();
         T.due("22: undo()", 0, x::undo);
         T.due("22: no player", 0, () -> x.about(1));
-        T.badState("22: undo() is no action", x, x::undo);
+        T.badState("22: undo() is no action", x::undo);
         x.addPlayer();
         x.addRole(1);
         x.ready(0, 0, 0);
@@ -297,7 +296,7 @@ public final class ActionsTest {
         T.due("22: the role", 1, x::undo);
         T.due("22: the role is not there", 0, () -> x.about(0));
         x.addRole(7);
-        T.badArgument("22: what throws is no action", x, () -> x.set(0, 0));
+        T.badArgument("22: what throws is no action", () -> x.set(0, 0));
         x.append('H');
         x.clearText();
         x.save(0);
@@ -310,27 +309,29 @@ public final class ActionsTest {
     }
 
     private static void undoTakesBackAll() {
-        StandIns x = Checks.house(TWO);
-        List<Checks.Call> actions = List.of(
-            x::addPlayer, () -> x.ready(2, 0, 9), () -> x.first(0, 2), () -> x.away(1, 3), x::post);
-        List<Checks.Call> laterActions = List.of(
-            () -> x.set(1, 77), x::play, () -> x.dark(3), x::post, x::play, () -> x.first(0, 1), () -> x.promote(0),
-            () -> x.addRole(3), x::play);
-        Deque<String> before = new ArrayDeque<>();
-        doAll(x, actions, before);
-        doAll(x, laterActions, before);
+        List<Recipe.Step> actions = List.<Recipe.Step>of(
+            StandIns::addPlayer, x -> x.ready(2, 0, 9), x -> x.first(0, 2), x -> x.away(1, 3), StandIns::post,
+            x -> x.set(1, 77), StandIns::play, x -> x.dark(3), StandIns::post, StandIns::play);
+        List<Recipe.Step> laterActions = List.<Recipe.Step>of(
+            x -> x.first(0, 1), x -> x.promote(0), x -> x.addRole(3), StandIns::play);
+        List<Recipe> before = new ArrayList<>();
+        Recipe done = doAll(doAll(Recipe.house(TWO), actions, before), laterActions, before);
         for (int n = 13; n >= 0; n--) {
-            T.due("22: undo() with " + n + " left", n, x::undo);
-            T.same("22: the state with " + n + " left", before.pop(), Snapshot.of(x));
+            Recipe back = done.times(13 - n, StandIns::undo);
+            T.due("22: undo() with " + n + " left", n, () -> back.make().undo());
+            String due = Snapshot.of(before.get(n).make());
+            T.same("22: the state with " + n + " left", due, Snapshot.of(back.then(StandIns::undo).make()));
         }
-        T.badState("22: none is left", x, x::undo);
+        T.badState("22: none is left", () -> done.times(14, StandIns::undo).make().undo());
     }
 
-    private static void doAll(StandIns x, List<Checks.Call> actions, Deque<String> before) {
-        for (Checks.Call action : actions) {
-            before.push(Snapshot.of(x));
-            action.answer();
+    private static Recipe doAll(Recipe recipe, List<Recipe.Step> actions, List<Recipe> before) {
+        Recipe done = recipe;
+        for (Recipe.Step action : actions) {
+            before.add(done);
+            done = done.then(action);
         }
+        return done;
     }
 
     private static void undoForgetsTheOldest() {
@@ -346,7 +347,7 @@ public final class ActionsTest {
             T.due("22: undo() of fourteen", left, x::undo);
             T.due("22: today", want, () -> x.about(2));
         }
-        T.badState("22: the fifteenth is forgotten", x, x::undo);
+        T.badState("22: the fifteenth is forgotten", x::undo);
         x.dark(1);
         T.due("22: one more action", 0, x::undo);
     }
@@ -375,8 +376,8 @@ public final class ActionsTest {
         T.due("11: ranked(9) in a full house", 3, () -> x.ranked(9));
         T.due("20: promote(1) in a full house", 8, () -> x.promote(1));
         T.due("20: promote(5) in a full house", 4, () -> x.promote(5));
-        T.badState("20: promote(0) in a full house", x, () -> x.promote(0));
-        T.outOfBounds("20: promote(6) in a full house", x, () -> x.promote(6));
-        T.outOfBounds("8: player(10, 0) in a full house", x, () -> x.player(10, 0));
+        T.badState("20: promote(0) in a full house", () -> x.promote(0));
+        T.outOfBounds("20: promote(6) in a full house", () -> x.promote(6));
+        T.outOfBounds("8: player(10, 0) in a full house", () -> x.player(10, 0));
     }
 }

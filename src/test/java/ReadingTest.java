@@ -45,7 +45,7 @@ public final class ReadingTest {
         // 2 is the first one of both, and can be only in one of them
         T.due("6: about(7) behind a change of first ones", 2, () -> x.about(7));
         for (int what : new int[] {-1, 8, Integer.MIN_VALUE, Integer.MAX_VALUE}) {
-            T.badArgument("6: about(" + what + ")", x, () -> x.about(what));
+            T.badArgument("6: about(" + what + ")", () -> x.about(what));
         }
         StandIns y = Checks.house("Hr3r4ppy001y111g");
         T.due("6: about(7) without first ones", 2, () -> y.about(7));
@@ -77,12 +77,12 @@ public final class ReadingTest {
         T.due("7: the posted one stays without a cast", 1, () -> x.role(1, 3));
         x.play();
         T.due("7: nothing is posted on the next day", -1, () -> x.role(0, 3));
-        T.badArgument("7: role(0, 5)", x, () -> x.role(0, 5));
-        T.badArgument("7: role(0, -1)", x, () -> x.role(0, -1));
-        T.outOfBounds("7: role(2, 0)", x, () -> x.role(2, 0));
-        T.outOfBounds("7: role(-1, 0)", x, () -> x.role(-1, 0));
-        T.outOfBounds("7: role(2, 5)", x, () -> x.role(2, 5));
-        T.outOfBounds("7: role(greatest, -1)", x, () -> x.role(Integer.MAX_VALUE, -1));
+        T.badArgument("7: role(0, 5)", () -> x.role(0, 5));
+        T.badArgument("7: role(0, -1)", () -> x.role(0, -1));
+        T.outOfBounds("7: role(2, 0)", () -> x.role(2, 0));
+        T.outOfBounds("7: role(-1, 0)", () -> x.role(-1, 0));
+        T.outOfBounds("7: role(2, 5)", () -> x.role(2, 5));
+        T.outOfBounds("7: role(greatest, -1)", () -> x.role(Integer.MAX_VALUE, -1));
         T.due("7: a new role has no first one", -1, () -> {
             x.addRole(1);
             return x.role(2, 1);
@@ -150,11 +150,11 @@ public final class ReadingTest {
         x.away(1, 1);
         x.away(2, 1);
         T.due("8: no role without a cast", -1, () -> x.player(0, 5));
-        T.badArgument("8: player(0, 6)", x, () -> x.player(0, 6));
-        T.badArgument("8: player(0, -1)", x, () -> x.player(0, -1));
-        T.outOfBounds("8: player(3, 0)", x, () -> x.player(3, 0));
-        T.outOfBounds("8: player(-1, 0)", x, () -> x.player(-1, 0));
-        T.outOfBounds("8: player(3, 6)", x, () -> x.player(3, 6));
+        T.badArgument("8: player(0, 6)", () -> x.player(0, 6));
+        T.badArgument("8: player(0, -1)", () -> x.player(0, -1));
+        T.outOfBounds("8: player(3, 0)", () -> x.player(3, 0));
+        T.outOfBounds("8: player(-1, 0)", () -> x.player(-1, 0));
+        T.outOfBounds("8: player(3, 6)", () -> x.player(3, 6));
         T.due("8: no role where there are none", -1, () -> Checks.house("Hp").player(0, 5));
     }
 
@@ -197,14 +197,14 @@ public final class ReadingTest {
         T.due("9: how often stays", 2, () -> x.both(0, 0, 1));
         x.away(1, 5);
         T.due("9: the worth of one who is away", 30, () -> x.both(1, 0, 2));
-        T.badArgument("9: both(0, 0, 3)", x, () -> x.both(0, 0, 3));
-        T.badArgument("9: both(0, 0, -1)", x, () -> x.both(0, 0, -1));
-        T.outOfBounds("9: both(3, 0, 0)", x, () -> x.both(3, 0, 0));
-        T.outOfBounds("9: both(0, 2, 0)", x, () -> x.both(0, 2, 0));
-        T.outOfBounds("9: both(-1, 0, 0)", x, () -> x.both(-1, 0, 0));
-        T.outOfBounds("9: both(0, -1, 0)", x, () -> x.both(0, -1, 0));
-        T.outOfBounds("9: both(3, 0, 3)", x, () -> x.both(3, 0, 3));
-        T.outOfBounds("9: both(0, 2, -1)", x, () -> x.both(0, 2, -1));
+        T.badArgument("9: both(0, 0, 3)", () -> x.both(0, 0, 3));
+        T.badArgument("9: both(0, 0, -1)", () -> x.both(0, 0, -1));
+        T.outOfBounds("9: both(3, 0, 0)", () -> x.both(3, 0, 0));
+        T.outOfBounds("9: both(0, 2, 0)", () -> x.both(0, 2, 0));
+        T.outOfBounds("9: both(-1, 0, 0)", () -> x.both(-1, 0, 0));
+        T.outOfBounds("9: both(0, -1, 0)", () -> x.both(0, -1, 0));
+        T.outOfBounds("9: both(3, 0, 3)", () -> x.both(3, 0, 3));
+        T.outOfBounds("9: both(0, 2, -1)", () -> x.both(0, 2, -1));
     }
 
     private static void setting() {
@@ -215,9 +215,9 @@ public final class ReadingTest {
             T.due("10: setting(" + w + ")", 9 - w, () -> x.setting(w));
         }
         T.due("10: setting(0) stays", 9, () -> x.setting(0));
-        T.badArgument("10: setting(5)", x, () -> x.setting(5));
-        T.badArgument("10: setting(-1)", x, () -> x.setting(-1));
-        T.badArgument("10: setting(least)", x, () -> x.setting(Integer.MIN_VALUE));
+        T.badArgument("10: setting(5)", () -> x.setting(5));
+        T.badArgument("10: setting(-1)", () -> x.setting(-1));
+        T.badArgument("10: setting(least)", () -> x.setting(Integer.MIN_VALUE));
     }
 
     private static void ranks(String when, StandIns x, int... want) {
@@ -230,7 +230,7 @@ public final class ReadingTest {
     private static void ranked() {
         StandIns none = new StandIns();
         ranks("without players", none, -1);
-        T.badArgument("11: ranked(-1) without players", none, () -> none.ranked(-1));
+        T.badArgument("11: ranked(-1) without players", () -> none.ranked(-1));
         StandIns x = Checks.house("Hr5ppppy205f02");
         ranks("at first", x, 0, 1, 2, 3, -1);
         x.play();
@@ -245,7 +245,7 @@ public final class ReadingTest {
         x.play();
         ranks("with one paid the extra", x, 3, 1, 2, 0, -1);
         T.due("11: ranked(greatest)", -1, () -> x.ranked(Integer.MAX_VALUE));
-        T.badArgument("11: ranked(-1)", x, () -> x.ranked(-1));
-        T.badArgument("11: ranked(least)", x, () -> x.ranked(Integer.MIN_VALUE));
+        T.badArgument("11: ranked(-1)", () -> x.ranked(-1));
+        T.badArgument("11: ranked(least)", () -> x.ranked(Integer.MIN_VALUE));
     }
 }

@@ -18,20 +18,20 @@ public final class ScriptTest {
 
     private static void scriptArguments() {
         StandIns x = Checks.house(TWO);
-        T.badArgument("28: runScript(0, 0)", x, () -> x.runScript(0, 0));
-        T.badArgument("28: runScript(4, 0)", x, () -> x.runScript(4, 0));
-        T.badArgument("28: runScript(-1, 0)", x, () -> x.runScript(-1, 0));
-        T.badArgument("28: runScript(1, -1)", x, () -> x.runScript(1, -1));
-        T.badArgument("28: runScript(3, least)", x, () -> x.runScript(3, Long.MIN_VALUE));
-        T.badArgument("28: runScript(3, greatest)", x, () -> x.runScript(3, Long.MAX_VALUE));
+        T.badArgument("28: runScript(0, 0)", () -> x.runScript(0, 0));
+        T.badArgument("28: runScript(4, 0)", () -> x.runScript(4, 0));
+        T.badArgument("28: runScript(-1, 0)", () -> x.runScript(-1, 0));
+        T.badArgument("28: runScript(1, -1)", () -> x.runScript(1, -1));
+        T.badArgument("28: runScript(3, least)", () -> x.runScript(3, Long.MIN_VALUE));
+        T.badArgument("28: runScript(3, greatest)", () -> x.runScript(3, Long.MAX_VALUE));
         long limit = 1;
         for (int n = 1; n <= 3; n++) {
             int commands = n;
             limit *= 10000;
             long many = limit;
-            T.badArgument("28: one digit too many for " + n, x, () -> x.runScript(commands, many));
-            T.badArgument("28: five digits too many for " + n, x, () -> x.runScript(commands, many * 10000));
-            T.badArgument("28: with zeros ahead of them", x, () -> x.runScript(commands, many * 10000 + 4000));
+            T.badArgument("28: one digit too many for " + n, () -> x.runScript(commands, many));
+            T.badArgument("28: five digits too many for " + n, () -> x.runScript(commands, many * 10000));
+            T.badArgument("28: with zeros ahead of them", () -> x.runScript(commands, many * 10000 + 4000));
             T.due("28: as many digits as may be for " + n, 0, () -> x.runScript(commands, many - 1));
             T.due("28: zeros only", 0, () -> x.runScript(commands, 0));
         }
@@ -162,14 +162,14 @@ public final class ScriptTest {
 
     private static void simulateArguments() {
         StandIns x = Checks.house(TWO);
-        T.badArgument("29: simulate(0, 0)", x, () -> x.simulate(0, 0));
-        T.badArgument("29: simulate(0, 41)", x, () -> x.simulate(0, 41));
-        T.badArgument("29: simulate(0, -1)", x, () -> x.simulate(0, -1));
+        T.badArgument("29: simulate(0, 0)", () -> x.simulate(0, 0));
+        T.badArgument("29: simulate(0, 41)", () -> x.simulate(0, 41));
+        T.badArgument("29: simulate(0, -1)", () -> x.simulate(0, -1));
         T.due("29: without players", 0, () -> Checks.house("Hr1").simulate(1, 40));
         T.due("29: without roles", 0, () -> Checks.house("Hp").simulate(1, 40));
         T.due("29: without both", 0, () -> new StandIns().simulate(1, 40));
         StandIns none = new StandIns();
-        T.badArgument("29: out of range without both", none, () -> none.simulate(1, 41));
+        T.badArgument("29: out of range without both", () -> none.simulate(1, 41));
         T.due("29: the run of the tests under shared", 33, () -> {
             StandIns y = Checks.house("Hr1p");
             return y.simulate(-1, 40);

@@ -26,11 +26,11 @@ public final class TextTest {
             int w = what;
             T.due("1: setting(" + w + ")", settings[w], () -> x.setting(w));
         }
-        T.outOfBounds("1: role(0, 0)", x, () -> x.role(0, 0));
-        T.outOfBounds("1: player(0, 0)", x, () -> x.player(0, 0));
-        T.badState("1: undo()", x, x::undo);
-        T.badState("1: restore(0)", x, () -> x.restore(0));
-        T.badState("1: restore(1)", x, () -> x.restore(1));
+        T.outOfBounds("1: role(0, 0)", () -> x.role(0, 0));
+        T.outOfBounds("1: player(0, 0)", () -> x.player(0, 0));
+        T.badState("1: undo()", x::undo);
+        T.badState("1: restore(0)", () -> x.restore(0));
+        T.badState("1: restore(1)", () -> x.restore(1));
         T.due("1: clearText()", 0, x::clearText);
         T.due("1: NONE", -1, () -> StandIns.NONE);
         x.addRole(3);
@@ -39,17 +39,17 @@ public final class TextTest {
 
     private static void append() {
         StandIns x = new StandIns();
-        T.badArgument("2: append(-1)", x, () -> x.append(-1));
-        T.badArgument("2: append(256)", x, () -> x.append(256));
-        T.badArgument("2: append(least)", x, () -> x.append(Integer.MIN_VALUE));
-        T.badArgument("2: append(greatest)", x, () -> x.append(Integer.MAX_VALUE));
+        T.badArgument("2: append(-1)", () -> x.append(-1));
+        T.badArgument("2: append(256)", () -> x.append(256));
+        T.badArgument("2: append(least)", () -> x.append(Integer.MIN_VALUE));
+        T.badArgument("2: append(greatest)", () -> x.append(Integer.MAX_VALUE));
         T.due("2: append(0)", 1, () -> x.append(0));
         T.due("2: append(255)", 2, () -> x.append(255));
         for (int n = 3; n <= 120; n++) {
             T.due("2: append as number " + n, n, () -> x.append('H'));
         }
-        T.badState("2: append to a full text", x, () -> x.append('H'));
-        T.badArgument("2: append(256) to a full text", x, () -> x.append(256));
+        T.badState("2: append to a full text", () -> x.append('H'));
+        T.badArgument("2: append(256) to a full text", () -> x.append(256));
         T.due("2: nothing was appended", 120, x::clearText);
         T.due("2: append to an emptied text", 1, () -> x.append('H'));
         T.due("2: no action", 0, () -> depth(x));
@@ -144,7 +144,7 @@ public final class TextTest {
 
     private static void load() {
         StandIns x = new StandIns();
-        T.badState("5: load() without a text", x, x::load);
+        T.badState("5: load() without a text", x::load);
         Checks.put(x, "Hr5r2ppy109f11a02d3g");
         T.due("5: load()", 0, x::load);
         T.due("5: the roles", 2, () -> x.about(0));
@@ -157,7 +157,7 @@ public final class TextTest {
         T.due("5: today", 4, () -> x.about(2));
         T.due("5: called off", 1, () -> x.about(4));
         T.due("5: a02 is over", 0, () -> x.player(0, 2));
-        T.badState("5: nothing is remembered", x, x::undo);
+        T.badState("5: nothing is remembered", x::undo);
         T.due("5: the text is kept", 20, x::clearText);
 
         StandIns y = Checks.house("Hr1r2pppf02");
@@ -215,7 +215,7 @@ public final class TextTest {
         x.post();
         x.save(0);
         x.save(1);
-        T.badState("5: load() of no house", x, x::load);
+        T.badState("5: load() of no house", x::load);
         T.due("5: a refused load keeps the states", 12, () -> {
             x.addPlayer();
             x.undo();
@@ -227,9 +227,9 @@ public final class TextTest {
         Checks.put(x, "Hr6p");
         T.due("5: load()", 0, x::load);
         T.same("5: all is as in a new object", Snapshot.of(Checks.house("Hr6p")), Snapshot.of(x));
-        T.badState("5: no state is remembered", x, x::undo);
-        T.badState("5: the slot 0 is empty", x, () -> x.restore(0));
-        T.badState("5: the slot 1 is empty", x, () -> x.restore(1));
+        T.badState("5: no state is remembered", x::undo);
+        T.badState("5: the slot 0 is empty", () -> x.restore(0));
+        T.badState("5: the slot 1 is empty", () -> x.restore(1));
         x.ready(0, 0, 5);
         T.due("5: load() again", 0, x::load);
         T.due("5: and all is new again", 0, () -> x.both(0, 0, 0));

@@ -50,11 +50,11 @@ public final class WouldBeTest {
         x.away(1, 2);
         T.due("24: without(0) and 1", -1, () -> x.without(0));
         T.due("24: without(1) and 1", 85, () -> x.without(1));
-        T.outOfBounds("24: without(3)", x, () -> x.without(3));
-        T.outOfBounds("24: without(-1)", x, () -> x.without(-1));
+        T.outOfBounds("24: without(3)", () -> x.without(3));
+        T.outOfBounds("24: without(-1)", () -> x.without(-1));
         T.due("24: without roles", 0, () -> Checks.house("Hp").without(0));
         StandIns none = new StandIns();
-        T.outOfBounds("24: without players", none, () -> none.without(0));
+        T.outOfBounds("24: without players", () -> none.without(0));
     }
 
     private static void missed() {
@@ -77,12 +77,12 @@ public final class WouldBeTest {
 
     private static void coming() {
         StandIns none = Checks.house("Hp");
-        T.badState("26: coming(1) without roles", none, () -> none.coming(1));
-        T.badArgument("26: coming(0) without roles", none, () -> none.coming(0));
+        T.badState("26: coming(1) without roles", () -> none.coming(1));
+        T.badArgument("26: coming(0) without roles", () -> none.coming(0));
         StandIns x = Checks.house("Hr1py001");
-        T.badArgument("26: coming(0)", x, () -> x.coming(0));
-        T.badArgument("26: coming(31)", x, () -> x.coming(31));
-        T.badArgument("26: coming(-1)", x, () -> x.coming(-1));
+        T.badArgument("26: coming(0)", () -> x.coming(0));
+        T.badArgument("26: coming(31)", () -> x.coming(31));
+        T.badArgument("26: coming(-1)", () -> x.coming(-1));
         T.due("26: coming(1)", 1, () -> x.coming(1));
         T.due("26: coming(5)", 0b11111, () -> x.coming(5));
         T.due("26: coming(7)", 0b1011111, () -> x.coming(7));
@@ -129,10 +129,10 @@ public final class WouldBeTest {
         x.away(1, 2);
         T.due("27: one who is away", -1, () -> x.degreeFor(1, 0));
         T.due("27: nobody else", 1, () -> x.degreeFor(0, 0));
-        T.outOfBounds("27: degreeFor(2, 0)", x, () -> x.degreeFor(2, 0));
-        T.outOfBounds("27: degreeFor(0, 1)", x, () -> x.degreeFor(0, 1));
-        T.outOfBounds("27: degreeFor(-1, 0)", x, () -> x.degreeFor(-1, 0));
-        T.outOfBounds("27: degreeFor(0, -1)", x, () -> x.degreeFor(0, -1));
+        T.outOfBounds("27: degreeFor(2, 0)", () -> x.degreeFor(2, 0));
+        T.outOfBounds("27: degreeFor(0, 1)", () -> x.degreeFor(0, 1));
+        T.outOfBounds("27: degreeFor(-1, 0)", () -> x.degreeFor(-1, 0));
+        T.outOfBounds("27: degreeFor(0, -1)", () -> x.degreeFor(0, -1));
         StandIns y = Checks.house(TWO);
         // 2 in role 0 and 1 in role 1 are 5 d + 22; 0 and 1 are 97
         T.due("27: never as good as the first one", -1, () -> y.degreeFor(2, 0));
