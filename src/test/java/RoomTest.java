@@ -3,7 +3,8 @@ import java.lang.management.ManagementFactory;
 
 /** All calls of one run live in one room: an object brings its rows with it, and its calls make nothing more. */
 public final class RoomTest {
-    private static final int CALLS = 512;
+    // with the 76 calls that make the full house these are at most 512
+    private static final int ROUNDS = 27;
     private static final long BYTES_OF_AN_OBJECT = 64 * 1024;
     private static final long BYTES_OF_ALL_CALLS = 64 * 1024;
     private static final ThreadMXBean THREADS = (ThreadMXBean) ManagementFactory.getThreadMXBean();
@@ -41,7 +42,7 @@ public final class RoomTest {
     }
 
     private static void dearCalls(StandIns x) {
-        for (int i = 0; i < CALLS / 16; i++) {
+        for (int i = 0; i < ROUNDS; i++) {
             x.simulate(i, 40);
             x.coming(30);
             x.degreeFor(i % 10, i % 6);
