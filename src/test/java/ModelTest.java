@@ -13,11 +13,14 @@ public final class ModelTest {
     // how many there are at most: small houses are cast by hand in no time, and tie more often
     private final int mostRoles;
     private final int mostPlayers;
+    // a house that begins with many roles that can be cast, for drawn calls alone seldom come so far
+    private final boolean beginsFull;
 
     private ModelTest(int seed) {
         random = new Random(seed);
-        mostRoles = random.nextInt(6) + 1;
-        mostPlayers = mostRoles > 3 ? 7 : random.nextInt(10) + 1;
+        beginsFull = seed % 100 == 0;
+        mostRoles = beginsFull ? from(4, 6) : from(1, 6);
+        mostPlayers = beginsFull ? from(7, 8) : mostRoles > 3 ? 7 : from(1, 10);
     }
 
     public static void main(String[] args) {
@@ -32,6 +35,10 @@ public final class ModelTest {
     }
 
     private boolean run() {
+        if (beginsFull && !fillHouse()) {
+            System.out.println(calls);
+            return false;
+        }
         for (int i = 0; i < 10 * CALLS && made < CALLS; i++) {
             if (!step()) {
                 System.out.println(calls);
@@ -39,6 +46,25 @@ public final class ModelTest {
             }
         }
         return true;
+    }
+
+    private boolean fillHouse() {
+        boolean good = true;
+        for (int i = 0; i < mostRoles; i++) {
+            int weight = from(1, random.nextBoolean() ? 9 : 2);
+            good = good && same("addRole(" + weight + ")", () -> x.addRole(weight), () -> model.addRole(weight));
+        }
+        for (int i = 0; i < mostPlayers; i++) {
+            good = good && same("addPlayer()", x::addPlayer, model::addPlayer);
+        }
+        int mostDegree = random.nextBoolean() ? 9 : from(1, 2);
+        for (int i = 0; i < mostRoles * mostPlayers; i++) {
+            int p = i / mostRoles;
+            int r = i % mostRoles;
+            int degree = from(mostDegree == 2 ? 0 : 1, mostDegree);
+            good = good && same("ready(" + p + ", " + r + ", " + degree + ")", () -> x.ready(p, r, degree), () -> model.ready(p, r, degree));
+        }
+        return good;
     }
 
     private boolean same(String call, Checks.Call mine, Checks.Call due) {
@@ -82,7 +108,7 @@ public final class ModelTest {
     }
 
     private boolean step() {
-        int kind = random.nextInt(100);
+        int kind = from(beginsFull ? 4 : 0, 99);
         if (kind < 4) {
             return text();
         }
@@ -147,7 +173,7 @@ public final class ModelTest {
             case 7:
                 return same("first(" + r + ", " + p + ")", () -> x.first(r, p), () -> model.first(r, p));
             case 8: case 9:
-                int days = near(1, random.nextBoolean() ? 99 : 3);
+                int days = near(1, random.nextInt(beginsFull ? 12 : 2) == 0 ? 99 : 3);
                 return same("away(" + p + ", " + days + ")", () -> x.away(p, days), () -> model.away(p, days));
             case 10: case 11:
                 return same("post()", x::post, model::post);
@@ -168,7 +194,7 @@ public final class ModelTest {
     }
 
     private boolean undos() {
-        int n = random.nextInt(4) == 0 ? 17 : 2;
+        int n = random.nextInt(beginsFull ? 40 : 4) == 0 ? 17 : 2;
         for (int i = 0; i < n; i++) {
             if (!same("undo()", x::undo, model::undo)) {
                 return false;
